@@ -5,6 +5,7 @@ public final class ImagesTest {
   public static void main(String[] args) {
     images();
     whatStays();
+    madeAnew();
     tell();
     check();
     count();
@@ -112,6 +113,33 @@ public final class ImagesTest {
     x.fell(0);
     due.is("the IMAGE is no part of what is", x.restore(), 0);
     due.is("WIRED once more", x.mileIs(3, 2), 1);
+  }
+
+  /** What was made behind the IMAGE leaves nothing where others are made then. */
+  private static void madeAnew() {
+    DesertWire x = new DesertWire();
+    x.work(5, 0, 1);
+    x.lay(0, 10);
+    due.is("FOOD of DEPOT 0", x.count(12), 10);
+    x.tell(-1);
+    x.tell(7);
+    x.image();
+    x.work(5, 1, 1);
+    x.lay(1, 20);
+    x.fell(1);
+    x.party(1, -1, 305, 9);
+    x.give(0, 0, 9);
+    x.check();
+    x.tell(8);
+    x.restore();
+    due.is("a WORK anew", x.work(5, 2, 3), 1);
+    due.is("it stands", x.workIs(1, 4), 0);
+    due.is("it holds nothing", x.workIs(1, 6), 0);
+    due.is("its MILE", x.workIs(1, 1), 2);
+    due.is("a PARTY anew", x.party(3, 1, 100, 1), 0);
+    due.is("its FOOD", x.partyIs(0, 5), 0);
+    due.is("its BEASTS", x.partyIs(0, 3), 0);
+    due.is("what waits as it was", x.check(), 2);
   }
 
   private static void tell() {

@@ -238,7 +238,7 @@ public final class LandTest {
     x.work(4, 0, 1);
     x.work(5, 0, 1);
     due.is("lay(0, 1)", x.lay(0, 1), Due.KIND);
-    due.is("lay(2, 1)", x.lay(2, 1), Due.BEYOND);
+    due.is("lay(2, 1) of none", x.lay(2, 1), Due.BEYOND);
     due.is("lay(-1, 1)", x.lay(-1, 1), Due.BEYOND);
     due.is("lay(1, 0)", x.lay(1, 0), Due.BEYOND);
     due.is("lay(1, 10000)", x.lay(1, 10000), Due.BEYOND);
@@ -248,6 +248,9 @@ public final class LandTest {
     due.is("lay(1, 1)", x.lay(1, 1), 9999);
     due.is("lay(1, 1) again", x.lay(1, 1), Due.FULL);
     due.is("count(12)", x.count(12), 9999);
+    x.work(5, 0, 1);
+    due.is("lay(2, 9999)", x.lay(2, 9999), 9999);
+    x.fell(2);
     x.fell(1);
     due.is("lay of one DOWN", x.lay(1, 1), Due.STATE);
     due.is("count(12) of one DOWN", x.count(12), 0);

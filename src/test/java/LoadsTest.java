@@ -7,11 +7,37 @@ public final class LoadsTest {
     several();
     loadFindings();
     byTrying();
+    againAndAgain();
     meeting();
     months();
+    meetingsByDays();
     judge();
     meetingFindings();
     due.end();
+  }
+
+  /** One object packs again and again, more and fewer things for more and fewer BEASTS. */
+  private static void againAndAgain() {
+    int seed = 99;
+    for (int round = 0; round < 6; round++) {
+      DesertWire x = new DesertWire();
+      for (int party = 0; party < 4; party++) {
+        x.party(0, 1, 100 + (5 * party + round) % 7, 0);
+      }
+      for (int pack = 0; pack < 12; pack++) {
+        int[] told = new int[3 * (1 + (7 * pack + round) % 5)];
+        for (int i = 0; i < told.length; i += 3) {
+          told[i] = 1 + ((seed = turned(seed)) >>> 4) % 12;
+          told[i + 1] = ((seed = turned(seed)) >>> 4) % 30;
+          told[i + 2] = 1 + ((seed = turned(seed)) >>> 4) % 3;
+        }
+        Due.fill(x, pack % 4, 16, told);
+        int[] best = tried(told, 12 * x.partyIs(pack * 3 % 4, 3));
+        for (int i = -2; i < told.length / 3; i++) {
+          due.is("pack " + pack + " load " + i, x.load(pack * 3 % 4, pack % 4, i), best[i + 2]);
+        }
+      }
+    }
   }
 
   private static DesertWire withBeasts(int beasts) {
@@ -213,10 +239,72 @@ public final class LoadsTest {
     due.is("behind MONTH 11 comes MONTH 0", y.judge(0, 1, 0, 1, 9999), Math.max(20 + 1 + 70, 38 + 37));
   }
 
+  private static int daysOf(int[] soils, int[] rains, int day, int from, int to, int men) {
+    int way = from <= to ? 1 : -1;
+    int now = day;
+    for (int mile = from; mile != to + way; mile += way) {
+      int month = now / 30 % 12;
+      int effort = soils[mile] == 0 ? 10 : soils[mile] == 1 ? 40 : 20 + 10 * rains[month];
+      for (int dug = 0; dug < effort; dug += men) {
+        now++;
+      }
+      now += mile == to ? 0 : 1;
+    }
+    return now - day;
+  }
+
+  /** Each x of meetings of one object told again, DAY by DAY. */
+  private static void meetingsByDays() {
+    int seed = 5;
+    for (int round = 0; round < 40; round++) {
+      DesertWire x = new DesertWire();
+      int[] soils = new int[40];
+      for (int mile = 0; mile < 40; mile++) {
+        soils[mile] = ((seed = turned(seed)) >>> 4) % 3;
+        x.land(mile, soils[mile], 0);
+      }
+      int day = 100 * (round % 5);
+      for (int i = 0; i < round % 5; i++) {
+        x.days(100);
+      }
+      for (int pair = 0; pair < 2; pair++) {
+        int a = round % 4;
+        int b = a + 1 + ((seed = turned(seed)) >>> 4) % (pair == 0 ? 12 : 35);
+        int menA = 1 + ((seed = turned(seed)) >>> 4) % 12;
+        int menB = 1 + ((seed = turned(seed)) >>> 4) % 12;
+        x.party(a, 1, 100 * menA, 0);
+        x.party(b, -1, 100 * menB, 0);
+        int[][] rains = new int[1 + round % 3][12];
+        x.sheet(1, 8, 12 * rains.length);
+        for (int i = 0; i < 12 * rains.length; i++) {
+          rains[i / 12][i % 12] = ((seed = turned(seed)) >>> 4) % 10;
+          x.put(1, i, rains[i / 12][i % 12]);
+        }
+        int best = -1;
+        int least = 0;
+        for (int mile = a; mile < b; mile++) {
+          int worst = 0;
+          for (int[] row : rains) {
+            worst = Math.max(worst, daysOf(soils, row, day, a, mile, menA));
+            worst = Math.max(worst, daysOf(soils, row, day, b, mile + 1, menB));
+          }
+          due.is("round " + round + " judge " + mile, x.judge(2 * pair, 2 * pair + 1, 1, mile, 9999), worst);
+          if (best < 0 || worst < least) {
+            best = mile;
+            least = worst;
+          }
+        }
+        due.is("round " + round + " x", x.meeting(2 * pair, 2 * pair + 1, 1, 0), best);
+        due.is("round " + round + " days", x.meeting(2 * pair, 2 * pair + 1, 1, 1), least);
+      }
+    }
+  }
+
   private static void judge() {
     DesertWire x = twoParties();
     due.is("judge(.., 6, 9)", x.judge(0, 1, 0, 6, 9), 9);
     due.is("judge(.., 6, 8)", x.judge(0, 1, 0, 6, 8), -1);
+    due.is("judge(.., 6, 0)", x.judge(0, 1, 0, 6, 0), -1);
     due.is("judge(.., 6, 9999)", x.judge(0, 1, 0, 6, 9999), 9);
     due.is("judge(.., 2, 9999)", x.judge(0, 1, 0, 2, 9999), 20);
     due.is("judge(.., 8, 9999)", x.judge(0, 1, 0, 8, 9999), 13);

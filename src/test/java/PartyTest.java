@@ -18,6 +18,7 @@ public final class PartyTest {
     noRoom();
     days();
     ahead();
+    farAhead();
     joined();
     due.end();
   }
@@ -119,6 +120,7 @@ public final class PartyTest {
     due.is("hand(-1, 0, 1)", x.hand(-1, 0, 1), Due.BEYOND);
     due.is("hand(0, 1, 0)", x.hand(0, 1, 0), Due.BEYOND);
     due.is("hand(0, 1, 51)", x.hand(0, 1, 51), Due.BEYOND);
+    due.is("hand(0, 1, 50)", x.hand(0, 1, 50), Due.STATE);
     due.is("hand(0, 2, 1)", x.hand(0, 2, 1), Due.STATE);
     due.is("hand(0, 1, 10)", x.hand(0, 1, 10), Due.STATE);
     due.is("hand(0, 1, 9)", x.hand(0, 1, 9), Due.FULL);
@@ -400,6 +402,31 @@ public final class PartyTest {
     due.is("ahead(1, -1, 0)", x.ahead(1, -1, 0), Due.BEYOND);
     due.is("ahead(1, 0, 2)", x.ahead(1, 0, 2), Due.BEYOND);
     due.is("ahead(1, 8, -1)", x.ahead(1, 8, -1), Due.BEYOND);
+  }
+
+  /** POLES of other MILES and DAYS, and DEPOTS, as they are ahead. */
+  private static void farAhead() {
+    DesertWire x = new DesertWire();
+    x.land(1, 1, 0);
+    x.days(50);
+    x.work(1, 1, 1);
+    x.work(1, 2, 1);
+    x.work(4, 3, 9);
+    x.work(5, 3, 1);
+    x.lay(3, 300);
+    x.party(3, 1, 200, 0);
+    x.rest(0, true);
+    x.days(10);
+    due.is("both stand", x.ahead(49, 9, 0), 2);
+    due.is("one stands", x.ahead(50, 9, 0), 1);
+    due.is("one stands still", x.ahead(109, 9, 0), 1);
+    due.is("none stands", x.ahead(110, 9, 0), 0);
+    due.is("FOOD is taken ahead", x.ahead(20, 5, 0), 38);
+    due.is("DRINK ahead", x.ahead(20, 6, 0), 98);
+    due.is("FOOD lasts", x.ahead(140, 2, 0), 2);
+    due.is("a MAN leaves ahead", x.ahead(141, 2, 0), 1);
+    due.is("LOST ahead", x.ahead(142, 8, 0), 2);
+    due.is("FOOD is there still", x.workIs(3, 6) + x.partyIs(0, 5), 280);
   }
 
   private static void joined() {

@@ -61,6 +61,17 @@ public final class WordsTest {
     due.is("in one MILE neither", x.reads(0, 7), 0);
     due.is("nor is it read", x.reads(7, 0), 0);
     due.is("the other one reads", x.reads(7, 4), 1);
+    DesertWire z = new DesertWire();
+    z.rain(0, 0);
+    z.work(3, 0, 1);
+    for (int mile = 1; mile < 12; mile++) {
+      z.work(2, mile, 1);
+    }
+    z.work(3, 12, 1);
+    z.reach(1);
+    due.is("LEAKS of 0 are no gaps", z.reads(0, 12), 1);
+    z.rain(0, 1);
+    due.is("LEAKS of 1", z.reads(0, 12), 0);
     DesertWire y = new DesertWire();
     y.work(3, 38, 1);
     y.work(3, 39, 1);
@@ -115,6 +126,16 @@ public final class WordsTest {
     due.is("the second hand", x.hands(0, 1, 2), 6);
     due.is("back, the first hand", x.hands(1, 0, 1), 6);
     due.is("back, the second hand", x.hands(1, 0, 2), 4);
+    DesertWire z = new DesertWire();
+    z.reach(1);
+    z.work(3, 2, 1);
+    z.work(3, 4, 1);
+    z.work(3, 0, 1);
+    z.work(2, 1, 1);
+    z.work(1, 3, 1);
+    z.work(2, 3, 1);
+    z.rain(0, 1);
+    due.is("by STATION 0", z.hands(1, 2, 1), 0);
     DesertWire y = new DesertWire();
     for (int i = 0; i < 40; i++) {
       y.work(3, 39 - i, 1);
