@@ -991,9 +991,9 @@ public final class DesertWire {
     }
 
     private void goOn(int party, int mile) {
+      parties.set(party, ITS_DUG, 0);
       if (isMile(mile)) {
         parties.set(party, ITS_MILE, mile);
-        parties.set(party, ITS_DUG, 0);
       } else {
         parties.set(party, ITS_MODE, AT_REST);
       }

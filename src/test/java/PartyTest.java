@@ -14,6 +14,7 @@ public final class PartyTest {
     hunger();
     digging();
     endOfTheLand();
+    dugAtTheEnd();
     twoInOneMile();
     noRoom();
     days();
@@ -310,6 +311,30 @@ public final class PartyTest {
     y.rest(0, false);
     y.days(1);
     due.is("it goes the other WAY", y.partyIs(0, 0), 1);
+  }
+
+  /** What was DUG in a MILE that another one wires is 0 at the end of the land, too. */
+  private static void dugAtTheEnd() {
+    for (int way = -1; way <= 1; way += 2) {
+      int end = way < 0 ? 0 : 39;
+      DesertWire x = supplied(end, way, 400, 5);
+      x.party(end, -way, 700, 5);
+      x.give(1, 0, 9999);
+      x.give(1, 1, 9999);
+      x.days(1);
+      due.is("DUG at the end", x.partyIs(0, 7), 4);
+      x.rest(0, true);
+      x.days(1);
+      due.is("the other one wires it", x.mileIs(end, 2), 1);
+      due.is("at REST it keeps its DUG", x.partyIs(0, 7), 4);
+      x.rest(0, false);
+      due.is("DUG at the end ahead", x.ahead(1, 7, 0), 0);
+      x.days(1);
+      due.is("DUG is 0 at the end", x.partyIs(0, 7), 0);
+      due.is("it stays at the end", x.partyIs(0, 0), end);
+      due.is("it rests at the end", x.partyIs(0, 8), 1);
+      due.is("the other one goes on", x.partyIs(1, 0), end - way);
+    }
   }
 
   private static void twoInOneMile() {
