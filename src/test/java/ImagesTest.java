@@ -57,12 +57,16 @@ public final class ImagesTest {
     return x;
   }
 
-  private static void images() {
+  private static DesertWire withImage() {
     DesertWire x = busy();
-    due.is("restore() of none", x.restore(), Due.NONE);
     x.days(1);
     due.is("image()", x.image(), 1);
-    long was = asked(x);
+    return x;
+  }
+
+  /** Changes all that an IMAGE keeps. */
+  private static DesertWire changed() {
+    DesertWire x = withImage();
     x.days(70);
     x.land(3, 2, 1);
     x.land(8, 2, 1);
@@ -75,21 +79,30 @@ public final class ImagesTest {
     x.rate(1, 0);
     Due.type(x, "9");
     x.tell(5);
-    due.is("all is changed", asked(x) == was ? 1 : 0, 0);
+    return x;
+  }
+
+  private static void images() {
+    due.is("restore() of none", busy().restore(), Due.NONE);
+    long was = asked(withImage());
+    due.is("all is changed", asked(changed()) == was ? 1 : 0, 0);
+    DesertWire x = changed();
     due.is("restore()", x.restore(), 1);
     due.is("all is as it was", asked(x), was);
-    due.is("RAIN", x.rain(0, 7), 2);
-    due.is("REACH", x.reach(9), 33);
-    due.is("numbers that wait", x.tell(1), 2);
-    due.is("restore() again", x.restore(), 1);
-    due.is("all is as it was, again", asked(x), was);
-    due.is("THE TAPE as it was", x.rate(1, 0), 1);
-    due.is("l*3", x.price(1, 7, 0, 0), 21);
-    x.days(4);
-    due.is("image() again", x.image(), 2);
-    x.days(4);
-    due.is("restore() of the later one", x.restore(), 5);
-    due.is("image() goes on", x.image(), 3);
+    DesertWire y = changed();
+    y.restore();
+    due.is("RAIN", y.rain(0, 7), 2);
+    due.is("REACH", y.reach(9), 33);
+    due.is("numbers that wait", y.tell(1), 2);
+    due.is("restore() again", y.restore(), 1);
+    due.is("all is as it was, again", asked(y), was);
+    due.is("THE TAPE as it was", y.rate(1, 0), 1);
+    due.is("l*3", y.price(1, 7, 0, 0), 21);
+    y.days(4);
+    due.is("image() again", y.image(), 2);
+    y.days(4);
+    due.is("restore() of the later one", y.restore(), 5);
+    due.is("image() goes on", y.image(), 3);
   }
 
   private static void whatStays() {
