@@ -419,8 +419,8 @@ public final class DesertWire {
     if (!miles || !isSpan(from, to) || !isSpan(low, high)) {
       return finding(BEYOND);
     }
-    int least = Math.max(a + from, Math.max(a, b - high));
-    int greatest = Math.min(a + to, Math.min(b, b - low));
+    int least = Math.max(a + from, b - high);
+    int greatest = Math.min(a + to, b - low);
     if (least > greatest) {
       return finding(NONE);
     }

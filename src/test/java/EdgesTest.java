@@ -45,6 +45,7 @@ public final class EdgesTest {
     carriedByBeasts();
     begunInAMonth();
     worstOfRows();
+    oneByOne();
     aheadOfNoDays();
     joinedOnTheLastDay();
     joinedAheadOfTheEnd();
@@ -962,6 +963,33 @@ public final class EdgesTest {
     due.is("of several the least", y.meeting(0, 1, 0, 0), 1);
     due.is("the other one", y.judge(0, 1, 0, 2, 9999), 5);
     due.is("the least one", y.judge(0, 1, 0, 1, 9999), 5);
+  }
+
+  // "n DAYS end, one by one"
+  private static void oneByOne() {
+    DesertWire[] both = new DesertWire[2];
+    for (int i = 0; i < 2; i++) {
+      DesertWire x = withParty(5, 1, 702, 9);
+      x.land(6, 2, 3);
+      x.land(8, 1, 60);
+      x.rain(1, 7);
+      x.work(5, 8, 1);
+      x.lay(0, 999);
+      both[i] = x;
+    }
+    due.is("at once", both[0].days(150), 150);
+    for (int day = 1; day <= 150; day++) {
+      due.is("one by one", both[1].days(1), day);
+    }
+    for (int what = 0; what <= 8; what++) {
+      due.is("one by one " + what, both[1].partyIs(0, what), both[0].partyIs(0, what));
+    }
+    due.is("WORKS one by one", both[1].count(0), both[0].count(0));
+    for (int work = 0; work < both[0].count(0); work++) {
+      due.is("since one by one", both[1].workIs(work, 3), both[0].workIs(work, 3));
+      due.is("DOWN one by one", both[1].workIs(work, 4), both[0].workIs(work, 4));
+    }
+    due.is("FOOD one by one", both[1].count(12), both[0].count(12));
   }
 
   // "what 0 to 8 as partyIs() of PARTY i", n of 0

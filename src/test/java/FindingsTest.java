@@ -59,6 +59,7 @@ public final class FindingsTest {
     move();
     images();
     counts();
+    asking();
     due.end();
   }
 
@@ -222,6 +223,7 @@ public final class FindingsTest {
     return 0;
   }
 
+  /** Promises 2, 3 and 9. */
   private static void land() {
     for (int v : outside(0, 11)) {
       refused("rain(" + v + ", 1)", Due.BEYOND, x -> x.rain(v, 1));
@@ -251,6 +253,7 @@ public final class FindingsTest {
     taken("mileIs(39, 5)", 0, x -> x.mileIs(39, 5));
   }
 
+  /** Promises 4 to 7. */
   private static void works() {
     for (int v : outside(0, 5)) {
       refused("work(" + v + ", 1, 1)", Due.BEYOND, x -> x.work(v, 1, 1));
@@ -291,6 +294,7 @@ public final class FindingsTest {
     taken("fell(0)", 1, x -> x.fell(0));
   }
 
+  /** Promise 8. */
   private static void depots() {
     for (int v : outside(0, LAST_WORK)) {
       refused("lay(" + v + ", 1)", Due.BEYOND, x -> x.lay(v, 1));
@@ -312,6 +316,7 @@ public final class FindingsTest {
     taken("lay(DEPOT, 1)", 91, x -> x.lay(DEPOT, 1));
   }
 
+  /** Promise 10. */
   private static void soils() {
     for (int v : outside(0, 3)) {
       refused("soils(" + v + ", 0)", Due.BEYOND, x -> x.soils(v, 0));
@@ -337,7 +342,7 @@ public final class FindingsTest {
     takenBehind(x -> x.sheet(COPIES, 8, 0), "soils of an empty SHEET", 0, x -> x.soils(COPIES, 39));
   }
 
-  /** The IMAGE has no PARTIES: behind restore() there is room. */
+  /** Promises 11, 12, 14 and 15. The IMAGE has no PARTIES: behind restore() there is room. */
   private static void party() {
     Act room = x -> x.restore();
     for (Act ahead : new Act[] {room, x -> 0}) {
@@ -377,6 +382,7 @@ public final class FindingsTest {
     taken("turn(ELSEWHERE)", 1, x -> x.turn(ELSEWHERE));
   }
 
+  /** Promise 13. */
   private static void give() {
     for (int v : outside(0, 3)) {
       refused("give(" + v + ", 0, 1)", Due.BEYOND, x -> x.give(v, 0, 1));
@@ -402,6 +408,7 @@ public final class FindingsTest {
     refused("give(LOST, 2, 99): STATE ahead of FULL", Due.STATE, x -> x.give(LOST, 2, 99));
   }
 
+  /** Promise 16. */
   private static void hand() {
     for (int v : outside(0, 3)) {
       refused("hand(" + v + ", MANY_MEN, 1)", Due.BEYOND, x -> x.hand(v, MANY_MEN, 1));
@@ -428,6 +435,7 @@ public final class FindingsTest {
     takenBehind(two, "hand of all but one", 10, x -> x.hand(0, 1, 9));
   }
 
+  /** Promises 17 and 18. */
   private static void reads() {
     for (int v : outside(1, 200)) {
       refused("reach(" + v + ")", Due.BEYOND, x -> x.reach(v));
@@ -450,6 +458,7 @@ public final class FindingsTest {
     taken("reads(FIRST, LONELY)", 0, x -> x.reads(FIRST, LONELY));
   }
 
+  /** Promise 19. */
   private static void hands() {
     for (int v : outside(0, LAST_WORK)) {
       refused("hands(" + v + ", FIRST, 0)", Due.BEYOND, x -> x.hands(v, FIRST, 0));
@@ -478,6 +487,7 @@ public final class FindingsTest {
     taken("hands(FIRST, THIRD, 2)", THIRD, x -> x.hands(FIRST, THIRD, 2));
   }
 
+  /** Promise 20. */
   private static void slip() {
     for (int v : outside(0, 3)) {
       refused("slip(" + v + ", FIRST, THIRD, 0)", Due.BEYOND, x -> x.slip(v, FIRST, THIRD, 0));
@@ -517,6 +527,7 @@ public final class FindingsTest {
     taken("slip(COPIES, FIRST, THIRD, 0)", 101, x -> x.slip(COPIES, FIRST, THIRD, 0));
   }
 
+  /** Promise 21. */
   private static void broke() {
     for (int v : outside(0, 39)) {
       refused("broke(" + v + ", 1, 2, 12, 1, 9)", Due.BEYOND, x -> x.broke(v, 1, 2, 12, 1, 9));
@@ -543,7 +554,7 @@ public final class FindingsTest {
     taken("broke next to the end", 3839, x -> x.broke(38, 0, 39, 39, 0, 39));
   }
 
-  /** THE TAPE holds 3 bytes here. */
+  /** Promise 22. THE TAPE holds 3 bytes here. */
   private static void tape() {
     Act nearlyFull = x -> x.feed(0, 8) + x.feed(0, 8) + x.feed(0, 8) + x.feed(0, 8) + x.feed(0, 8);
     for (int v : outside(1, 8)) {
@@ -557,6 +568,7 @@ public final class FindingsTest {
     taken("feed(1, 8)", 11, x -> x.feed(1, 8));
   }
 
+  /** Promises 23 to 26. */
   private static void rates() {
     Act full = x -> {
       int made = 0;
@@ -592,6 +604,7 @@ public final class FindingsTest {
     taken("a PRICE as low as a finding", Due.BEYOND, x -> x.price(0, Due.BEYOND, 0, 0));
   }
 
+  /** Promise 27. */
   private static void load() {
     for (int v : outside(0, 3)) {
       refused("load(" + v + ", THINGS, 0)", Due.BEYOND, x -> x.load(v, THINGS, 0));
@@ -639,6 +652,7 @@ public final class FindingsTest {
     taken("load of one LOST", 0, x -> x.load(LOST, THINGS, 0));
   }
 
+  /** Promise 28. */
   private static void meeting() {
     for (int v : outside(0, 3)) {
       refused("meeting(" + v + ", ELSEWHERE, RAINS, 0)", Due.BEYOND, x -> x.meeting(v, ELSEWHERE, RAINS, 0));
@@ -695,7 +709,7 @@ public final class FindingsTest {
         x -> meets.on(x, ELSEWHERE, TEN_MEN, RAINS));
   }
 
-  /** The PARTIES stand in MILES 5 and 9. */
+  /** Promise 29. The PARTIES stand in MILES 5 and 9. */
   private static void judge() {
     for (int v : outside(0, 3)) {
       refused("judge(" + v + ", ELSEWHERE, RAINS, 6, 99)", Due.BEYOND,
@@ -736,6 +750,7 @@ public final class FindingsTest {
     return now;
   }
 
+  /** Promises 30 and 31. */
   private static void days() {
     for (int v : outside(1, 200)) {
       refused("days(" + v + ")", Due.BEYOND, x -> x.days(v));
@@ -767,6 +782,7 @@ public final class FindingsTest {
     taken("ahead(200, 8, 3)", 2, x -> x.ahead(200, 8, 3));
   }
 
+  /** Promise 32. */
   private static void joined() {
     for (int v : outside(0, 39)) {
       refused("joined(" + v + ", 12)", Due.BEYOND, x -> x.joined(v, 12));
@@ -779,6 +795,7 @@ public final class FindingsTest {
     taken("joined(30, 30)", 1, x -> x.joined(30, 30));
   }
 
+  /** Promises 33 and 34. */
   private static void voices() {
     for (int v : outside(0, LAST_WORK)) {
       refused("voice(" + v + ", 0, 1)", Due.BEYOND, x -> x.voice(v, 0, 1));
@@ -794,6 +811,7 @@ public final class FindingsTest {
     taken("trace(17)", 10, x -> x.trace(17));
   }
 
+  /** Promises 35 and 36. */
   private static void sheets() {
     for (int v : outside(0, 3)) {
       refused("sheet(" + v + ", 8, 1)", Due.BEYOND, x -> x.sheet(v, 8, 1));
@@ -828,7 +846,7 @@ public final class FindingsTest {
     taken("put(COPIES, 2, most)", 1, x -> x.put(COPIES, 2, Integer.MAX_VALUE));
   }
 
-  /** RAINS has 12 numbers of 8 bits, COPIES 3 of 8 bits, THINGS 6 of 16 bits. */
+  /** Promise 37. RAINS has 12 numbers of 8 bits, COPIES 3 of 8 bits, THINGS 6 of 16 bits. */
   private static void move() {
     for (int v : outside(0, 3)) {
       refused("move(" + v + ", 0, COPIES, 0, 1)", Due.BEYOND, x -> x.move(v, 0, COPIES, 0, 1));
@@ -863,6 +881,7 @@ public final class FindingsTest {
     taken("move of none from the end to the end", 0, x -> x.move(RAINS, 12, COPIES, 3, 0));
   }
 
+  /** Promises 38 to 41. */
   private static void images() {
     DesertWire x = new DesertWire();
     due.is("restore() of none", x.restore(), Due.NONE);
@@ -881,6 +900,7 @@ public final class FindingsTest {
     takenBehind(full, "check() of 20", 1, y -> y.check());
   }
 
+  /** Promises 42 and 43. */
   private static void counts() {
     for (int v : outside(0, 12)) {
       refused("count(" + v + ")", Due.BEYOND, x -> x.count(v));
@@ -892,5 +912,41 @@ public final class FindingsTest {
     taken("count(12)", 90, x -> x.count(12));
     taken("found(1)", 0, x -> x.found(1));
     taken("found(5)", 0, x -> x.found(5));
+  }
+
+  private static void asked(String call, Act act) {
+    DesertWire x = ready();
+    int was = findings(x);
+    act.on(x);
+    due.is(call + " is no finding", findings(x), was);
+    DesertWire untouched = ready();
+    findings(untouched);
+    due.is(call + " changes nothing", seen(x).equals(seen(untouched)) ? 1 : 0, 1);
+  }
+
+  /** What only asks changes nothing. */
+  private static void asking() {
+    asked("as", x -> x.as(FIRST, 1));
+    asked("workIs", x -> x.workIs(FIRST, 7));
+    asked("mileIs", x -> x.mileIs(3, 3));
+    asked("partyIs", x -> x.partyIs(TEN_MEN, 6));
+    asked("reads", x -> x.reads(FIRST, SECOND));
+    asked("hands", x -> x.hands(FIRST, THIRD, 1));
+    asked("slip", x -> x.slip(COPIES, FIRST, THIRD, 0));
+    asked("broke", x -> x.broke(3, 1, 9, 12, 0, 9));
+    asked("force", x -> x.force(0, 5));
+    asked("price", x -> x.price(0, 1, 2, 3));
+    asked("owed", x -> x.owed(0));
+    asked("load", x -> x.load(TEN_MEN, THINGS, -1));
+    asked("meeting", x -> x.meeting(TEN_MEN, ELSEWHERE, RAINS, 1));
+    asked("judge", x -> x.judge(TEN_MEN, ELSEWHERE, RAINS, 6, 99));
+    for (int what = 0; what <= 10; what++) {
+      int of = what;
+      asked("ahead", x -> x.ahead(200, of, TEN_MEN));
+    }
+    asked("joined", x -> x.joined(10, 12));
+    asked("trace", x -> x.trace(0));
+    asked("count", x -> x.count(0));
+    asked("found", x -> x.found(1));
   }
 }
