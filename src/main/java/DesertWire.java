@@ -84,7 +84,7 @@ public final class DesertWire {
   private final Rates rates = new Rates();
   private final Rates keptRates = new Rates();
   private final Reader reader = new Reader();
-  private final Hands way = new Hands();
+  private final Hands words = new Hands();
   private final Loads loads = new Loads();
   private final Meetings meetings = new Meetings();
   private final Voices voices = new Voices();
@@ -352,8 +352,8 @@ public final class DesertWire {
     if (!areStations(a, b)) {
       return finding(KIND);
     }
-    way.survey(now);
-    return way.canRead(now, a, b) ? 1 : 0;
+    words.survey(now);
+    return words.canRead(now, a, b) ? 1 : 0;
   }
 
   /** Promise 19. */
@@ -364,11 +364,11 @@ public final class DesertWire {
     if (!areStations(a, b)) {
       return finding(KIND);
     }
-    int length = way.find(now, a, b);
+    int length = words.find(now, a, b);
     if (length == 0 || i >= length) {
       return finding(NONE);
     }
-    return i == -1 ? length : way.stationAt(i);
+    return i == -1 ? length : words.stationAt(i);
   }
 
   /** Promise 20. That there is no i-th is asked ahead of STATE, as the document lists it. */
@@ -382,7 +382,7 @@ public final class DesertWire {
     if (sheets.isMissing(sheet)) {
       return finding(NONE);
     }
-    int length = way.find(now, a, b);
+    int length = words.find(now, a, b);
     int slip = slipOn(sheet, i);
     if (length == 0 || slip < 0) {
       return finding(NONE);
@@ -1054,8 +1054,8 @@ public final class DesertWire {
       sinces[number] = since;
       foods[number] = 0;
       downs[number] = 0;
-      tally(number, 1);
       number++;
+      tally(number - 1, 1);
       return number - 1;
     }
 
@@ -1067,8 +1067,8 @@ public final class DesertWire {
     }
 
     private void tally(int work, int sign) {
-      int mile = miles[work];
-      if (!isMile(mile)) {
+      int mile = mileOf(work);
+      if (!has(work) || !isMile(mile)) {
         return;
       }
       int kind = kinds[work];
@@ -1148,7 +1148,7 @@ public final class DesertWire {
       if (!isMile(mile) || depots[mile] == 0) {
         return taken;
       }
-      for (int work = 0; work < number && taken < wanted; work++) {
+      for (int work = 0; work < number && work < WORKS && taken < wanted; work++) {
         if (kinds[work] == DEPOT && downs[work] == 0 && miles[work] == mile) {
           int part = Math.min(foods[work], wanted - taken);
           foods[work] -= part;
@@ -1160,7 +1160,7 @@ public final class DesertWire {
 
     int fallen() {
       int fallen = 0;
-      for (int work = 0; work < number; work++) {
+      for (int work = 0; work < number && work < WORKS; work++) {
         fallen += downs[work];
       }
       return fallen;
@@ -1168,7 +1168,7 @@ public final class DesertWire {
 
     int stations() {
       int stations = 0;
-      for (int work = 0; work < number; work++) {
+      for (int work = 0; work < number && work < WORKS; work++) {
         if (kinds[work] == STATION && downs[work] == 0) {
           stations++;
         }
@@ -1178,7 +1178,7 @@ public final class DesertWire {
 
     int storedFood() {
       int stored = 0;
-      for (int work = 0; work < number; work++) {
+      for (int work = 0; work < number && work < WORKS; work++) {
         if (kinds[work] == DEPOT && downs[work] == 0) {
           stored += foods[work];
         }
@@ -1317,7 +1317,7 @@ public final class DesertWire {
       int queued = 1;
       for (int i = 0; i < queued && i < WORKS; i++) {
         int station = queue[i];
-        for (int work = 0; work < world.works.number && queued < WORKS; work++) {
+        for (int work = 0; work < WORKS && queued < WORKS; work++) {
           if (far[work] == 0 && isRead(world, station, work)) {
             far[work] = distanceOf(station) + 1;
             queue[queued] = work;
@@ -1336,7 +1336,7 @@ public final class DesertWire {
     }
 
     private int nextHand(World world, int station, int left) {
-      for (int work = 0; work < world.works.number; work++) {
+      for (int work = 0; work < WORKS; work++) {
         if (far[work] == left && isRead(world, station, work)) {
           return work;
         }
